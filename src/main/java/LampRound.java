@@ -403,9 +403,8 @@ public final class LampRound {
             if (!village.passNight(thought, false)) {
                 dark++;
             }
-            int spoilt = thought.spoilt & ~before;
-            if (first == NONE && spoilt != 0) {
-                first = Integer.numberOfTrailingZeros(spoilt);
+            if (first == NONE) {
+                first = least(thought.spoilt & ~before);
             }
         }
         switch (what) {
@@ -418,6 +417,15 @@ public final class LampRound {
             default:
                 return first;
         }
+    }
+
+    private static int least(int set) {
+        for (int i = 0; i < MOST_NEEDS; i++) {
+            if (((set >> i) & 1) == 1) {
+                return i;
+            }
+        }
+        return NONE;
     }
 
     public int plan(int n, int what) {
@@ -818,18 +826,22 @@ public final class LampRound {
             if (pairs == null) {
                 pairs = new int[1 << MOST_HOUSES];
             }
-            for (int set = 1; set <= all() && set < pairs.length; set++) {
-                int h = Integer.numberOfTrailingZeros(set);
-                int rest = set & ~(1 << h);
-                int most = pairsIn(rest);
-                int choice = rest & friendSet[h];
-                for (int other = h + 1; other < count; other++) {
-                    if (((choice >> other) & 1) == 1) {
-                        most = Math.max(most, pairsIn(rest & ~(1 << other)) + 1);
-                    }
+            for (int h = 0; h < count; h++) {
+                for (int rest = 0; rest < 1 << h; rest++) {
+                    pairs[rest | 1 << h] = mostPairs(h, rest);
                 }
-                pairs[set] = most;
             }
+        }
+
+        private int mostPairs(int h, int rest) {
+            int most = pairsIn(rest);
+            int choice = rest & friendSet[h];
+            for (int other = 0; other < h; other++) {
+                if (((choice >> other) & 1) == 1) {
+                    most = Math.max(most, pairsIn(rest & ~(1 << other)) + 1);
+                }
+            }
+            return most;
         }
 
         private int pairsIn(int set) {

@@ -71,7 +71,7 @@ public final class ModelTest {
     }
 
     private void run(int houses) {
-        for (int i = 0; i < houses; i++) {
+        for (int i = 0; i < 40 && model.n() < houses; i++) {
             int place = about(0, 63), people = about(1, 20), oil = chance(3) ? about(0, 9) : about(0, 999);
             due("house " + place + " " + people + " " + oil, lamp.house(place, people, oil),
                 model.house(place, people, oil));
