@@ -1074,10 +1074,11 @@ public final class LampRound {
      * what is done with the topmost ones.
      */
     static final class Law {
-        final int[] code = new int[MOST_SIGNS];
+        private final int[] code = new int[MOST_SIGNS];
+        /** How much of code is filled while it is read. */
         private int size;
         /** Of line i, at 2 i where its E begins (the first at 0), at 2 i + 1 its B, which ends at 2 i + 2. */
-        final int[] marks = new int[2 * MOST_LINES + 1];
+        private final int[] marks = new int[2 * MOST_LINES + 1];
         int lines;
         private final int[] stack = new int[64];
         /** ( not and or that wait for what follows, while a B is read. */
@@ -1090,7 +1091,6 @@ public final class LampRound {
         void take(Law from) {
             System.arraycopy(from.code, 0, code, 0, MOST_SIGNS);
             System.arraycopy(from.marks, 0, marks, 0, 2 * MOST_LINES + 1);
-            size = from.size;
             lines = from.lines;
         }
 

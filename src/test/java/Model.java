@@ -2,7 +2,9 @@ import java.util.ArrayDeque;
 import java.util.ArrayList;
 import java.util.Arrays;
 import java.util.Deque;
+import java.util.HashMap;
 import java.util.List;
+import java.util.Map;
 
 /**
  * The document once more, in the plainest form and by other means than LampRound: everything is
@@ -408,7 +410,15 @@ final class Model {
         if (n < 1 || n > 10 || n() == 0) return NONE;
         if (what != 0 && what != 1 && (what < 10 || what >= 10 + n)) return NONE;
         bestWorth = -1;
-        planFrom(new int[n], 0, 0);
+        if (Math.pow(n(), n) <= 60000) {
+            planFrom(new int[n], 0, 0);
+        } else {
+            known.clear();
+            int[] best = planOn(n, 0, w.lamp, 0);
+            bestWorth = best[0];
+            bestWay = best[1];
+            bestRow = Arrays.copyOfRange(best, 2, 2 + n);
+        }
         return what == 0 ? bestWorth : what == 1 ? bestWay : bestRow[what - 10];
     }
 
@@ -429,6 +439,46 @@ final class Model {
                 planFrom(row, k + 1, way + w.far(from, h, w.snow));
             }
         }
+    }
+
+    private final Map<List<Integer>, int[]> known = new HashMap<>();
+
+    /** Where there are too many rows: the best worth, way and rest of the row from NIGHT k on. */
+    private int[] planOn(int n, int k, int from, int done) {
+        if (k == n) return new int[] {0, 0};
+        List<Integer> key = List.of(k, from, done);
+        if (known.containsKey(key)) return known.get(key);
+        int[] best = null;
+        for (int h = 0; h < n(); h++) {
+            if (!w.reached(from, h)) continue;
+            int then = done, worth = 0;
+            for (int i = 0; i < w.needs.size(); i++) {
+                if ((done >> i & 1) == 0 && servedIn(w.needs.get(i), k, from, h)) {
+                    then |= 1 << i;
+                    worth += w.needs.get(i).worth;
+                }
+            }
+            int[] rest = planOn(n, k + 1, h, then);
+            int way = rest[1] + w.far(from, h, w.snow);
+            worth += rest[0];
+            if (best == null || worth > best[0] || (worth == best[0] && way < best[1])) {
+                best = new int[2 + n - k];
+                best[0] = worth;
+                best[1] = way;
+                best[2] = h;
+                System.arraycopy(rest, 2, best, 3, n - k - 1);
+            }
+        }
+        known.put(key, best);
+        return best;
+    }
+
+    private boolean servedIn(Need need, int k, int from, int h) {
+        int night = w.night + k;
+        if (need.done != null || need.spoilt || need.at != h || night < need.from || night > need.to) return false;
+        Integer last = w.houses.get(h).last;
+        boolean ahead = k == 0 ? last != null && last == night - 1 : from == h;
+        return need.kind != 3 || ahead;
     }
 
     private int worthOf(int[] row) {

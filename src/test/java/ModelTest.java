@@ -4,7 +4,7 @@ import java.util.Random;
 
 /** Runs of drawn calls, the same ones every time, on LampRound and on Model: both answer alike. */
 public final class ModelTest {
-    private static final int RUNS = 700;
+    private static final int RUNS = 500;
     private static final int CALLS = 512;
     private static final String[] LAW_WORDS = {"house", "owed", "waited", "snow", "oil", "season", "people", "needs",
         "far", "bid"};
@@ -320,7 +320,8 @@ public final class ModelTest {
             case 8:
             case 9:
             case 10: {
-                int n = rowNights(), what = chance(2) ? about(0, 1) : about(10, 10 + Math.max(1, n));
+                int n = chance(10) ? pick(5, 10) : rowNights();
+                int what = chance(2) ? about(0, 1) : about(10, 10 + Math.max(1, n));
                 due("plan " + n + " " + what, lamp.plan(n, what), model.plan(n, what));
                 break;
             }

@@ -14,6 +14,7 @@ public final class PromisesTest {
         lawTruths();
         lawFaults();
         lawDepth();
+        fullTapes();
         pathTexts();
         needTexts();
         roundTexts();
@@ -332,6 +333,30 @@ public final class PromisesTest {
         due.told(x, 0, "turn 1 when " + "not(".repeat(4) + "1=1)))) and " + "(".repeat(8) + "1=1" + ")".repeat(8) + ";", 1);
         due.told(x, 0, "turn 1 when " + "not not 1=1 and ".repeat(9) + "1=1;", 1);
         due.fault(x, 0, "turn 1 when " + "(".repeat(7) + "not 1=1 and ((1=1", 3, 32);
+    }
+
+    /** 400 signs, to the last one. */
+    private static void fullTapes() {
+        LampRound x = row(2, 0);
+        due.fault(x, 0, "turn " + "1".repeat(395), 1, 5);
+        due.fault(x, 0, "turn " + "a".repeat(395), 1, 5);
+        due.fault(x, 0, "turn 1" + " ".repeat(394), 1, 400);
+        due.fault(x, 0, "turn 1 when 1" + "+1".repeat(193) + "=", 1, 400);
+        due.fault(x, 0, "turn 1 " + " ".repeat(392) + "+", 1, 400);
+        due.fault(x, 0, "turn 1 " + "\n".repeat(392) + "7", 1, 399);
+        due.told(x, 0, "turn 1" + "+1".repeat(196) + " ;", 1);
+        due.is("a long sum", x.of(0, 8), 197);
+        due.told(x, 0, "turn1" + "*1/1+1".repeat(65) + "    ;", 1);
+        due.is("a long row", x.of(0, 8), 66);
+        due.told(x, 0, "turn5when" + "1=2or1=1and(".repeat(8) + "1=2or1=1and1=1" + ")".repeat(8) + ";turn6;", 2);
+        due.is("deep", x.of(0, 8), 5);
+        due.told(x, 0, "turn5when" + "1=2or1=1and(".repeat(8) + "1=2or1=1and1=2" + ")".repeat(8) + ";turn6;", 2);
+        due.is("deep, not so", x.of(0, 8), 6);
+        due.told(x, 4, "go 1;".repeat(80), 80);
+        due.fault(x, 4, "go 1;".repeat(79) + "go  1", 1, 400);
+        due.told(x, 4, "again1()".repeat(50), 0);
+        due.told(x, 2, "path0to1in1;".repeat(33) + "    ", 33);
+        due.fault(x, 2, "path0to1in1;".repeat(33) + "path", 1, 400);
     }
 
     private static void pathTexts() {
