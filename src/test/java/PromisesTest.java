@@ -159,7 +159,7 @@ public final class PromisesTest {
         due.is("fault 1 of none such", x.fault(1), NONE);
         due.is("empty then, too", x.feed(0, 0, 0, 0, 0), 20);
         x.text(-1);
-        // "turn" and "-1;\n": the highest byte comes first, and bytes above 127 are signs, too.
+        // "turn 7;\n" and blanks: the highest byte comes first; the last one is cut off.
         due.is("feed", x.feed(0x7475726e, 0x20373b0a, 0x20202020, 0x20202020, 0x202020ff), 20);
         due.yes("end(19)", x.end(19));
         due.is("text(0)", x.text(0), 1);
@@ -380,7 +380,7 @@ public final class PromisesTest {
         for (int i = 0; i < 13; i++) s.append("path0to1in9;");
         due.told(y, 2, s.toString(), 13);
         due.told(x, 2, "path 0 to 0 in 1;", 1);
-        // 41 do not go on a tape of 400 but as the least ones: nine signs and a few more.
+        // The 41st can not come: 33 of the shortest fill the tape.
         due.is("33 paths", Due.tell(y, 2, "path0to1in9;".repeat(33)), 33);
         due.fault(new LampRound(), 2, "path 0 to 0 in 1;", 2, 5);
     }
