@@ -1,4 +1,4 @@
-/** Promise by promise, with answers worked out by hand from the document. */
+/** Promise by promise: what is due is written out from the document, or computed beside the call. */
 public final class PromisesTest {
     private static final int NONE = LampRound.NONE;
     private static final Due due = new Due("PromisesTest");
