@@ -62,6 +62,8 @@ public final class ModelTest {
 
     private void due(String call, long got, long want) {
         calls++;
+        // What an object answers beyond its last call is free.
+        if (calls > CALLS) return;
         log.add(call + " = " + got + (got == want ? "" : ", the model says " + want));
         if (got != want) wrong++;
     }

@@ -48,22 +48,6 @@ public final class PromisesTest {
         due.close();
     }
 
-    /** HOUSES 0 .. n - 1 in a row, each with that OIL and one of PEOPLE. */
-    private static LampRound row(int n, int oil) {
-        LampRound x = new LampRound();
-        for (int i = 0; i < n; i++) x.house(i, 1, oil);
-        return x;
-    }
-
-    /** The same, each with a PATH in 1 to the next one. */
-    private static LampRound street(int n, int oil) {
-        LampRound x = row(n, oil);
-        StringBuilder s = new StringBuilder();
-        for (int i = 0; i + 1 < n; i++) s.append("path " + i + " to " + (i + 1) + " in 1;");
-        Due.tell(x, 2, s.toString());
-        return x;
-    }
-
     private static void newObject() {
         LampRound x = new LampRound();
         due.is("NONE", LampRound.NONE, -1);
@@ -76,7 +60,7 @@ public final class PromisesTest {
     }
 
     private static void state() {
-        LampRound x = row(1, 9);
+        LampRound x = Villages.row(1, 9);
         due.is("state(7)", x.state(7), 0);
         due.is("state(-5)", x.state(-5), 7);
         due.is("look(4)", x.look(4), -5);
@@ -103,7 +87,7 @@ public final class PromisesTest {
     }
 
     private static void set() {
-        LampRound x = row(2, 9);
+        LampRound x = Villages.row(2, 9);
         int[] least = {0, 0, 0, 1, 1, 0, 1, 0, 0, 0, 0};
         int[] most = {9, 1000, 99, 99, 99, 1, 20, 999, 99, 99, 9999};
         int[] asked = {20, 21, 22, 23, 24, 1, 1, 2, 3, 6, 7};
@@ -126,7 +110,7 @@ public final class PromisesTest {
     }
 
     private static void friends() {
-        LampRound x = row(3, 0);
+        LampRound x = Villages.row(3, 0);
         due.yes("friends(0, 2)", x.friends(0, 2, true));
         due.is("of(0, 10)", x.of(0, 10), 4);
         due.is("of(2, 10)", x.of(2, 10), 1);
@@ -169,7 +153,7 @@ public final class PromisesTest {
 
     /** What a LAW of TURNS tells of HOUSE 1 of three. */
     private static void law(String law, int want) {
-        LampRound x = street(3, 40);
+        LampRound x = Villages.street(3, 40);
         x.house(60, 1, 0);
         x.set(6, 1, 5);
         x.set(7, 1, 33);
@@ -212,7 +196,7 @@ public final class PromisesTest {
         law("turn 5 when 1+1=2 and 2*3>5 and (7/2=3);turn 6;", 5);
         law("turn 5 when house<1;turn 6;", 6);
         law("turn 5 when house>1;turn 6;", 6);
-        LampRound x = street(3, 40);
+        LampRound x = Villages.street(3, 40);
         x.house(60, 1, 5);
         Due.tell(x, 0, "turn far;");
         due.is("far of the lamp's", x.of(0, 8), 0);
@@ -242,8 +226,8 @@ public final class PromisesTest {
 
     /** and binds closer than or, not closer than both; each by all truths of three comparisons. */
     private static void lawTruths() {
-        LampRound x = row(1, 0);
         for (int truths = 0; truths < 8; truths++) {
+            LampRound x = Villages.row(1, 0);
             boolean a = (truths & 1) > 0, b = (truths & 2) > 0, c = (truths & 4) > 0;
             String p = a ? "1=1" : "1=2", q = b ? "2>1" : "2<1", r = c ? "0<1" : "0>1";
             truth(x, p + " and " + q + " or " + r, a && b || c);
@@ -257,6 +241,7 @@ public final class PromisesTest {
             truth(x, p + " or not " + q + " and not not " + r, a || !b && c);
             truth(x, "not (not (" + p + " or " + q + ") and " + r + ")", !(!(a || b) && c));
         }
+        LampRound x = Villages.row(1, 0);
         String fifteen = "";
         for (int i = 0; i < 15; i++) fifteen += "turn 1 when 1=2;";
         due.told(x, 0, fifteen + "turn 2*house+77;", 16);
@@ -269,7 +254,7 @@ public final class PromisesTest {
     }
 
     private static void lawFaults() {
-        LampRound x = row(2, 0);
+        LampRound x = Villages.row(2, 0);
         due.told(x, 0, "", 0);
         due.told(x, 0, " \n ", 0);
         due.told(x, 0, "turn 1;", 1);
@@ -320,7 +305,7 @@ public final class PromisesTest {
     }
 
     private static void lawDepth() {
-        LampRound x = row(2, 0);
+        LampRound x = Villages.row(2, 0);
         String sixteen = "turn 1;".repeat(16);
         due.told(x, 0, sixteen, 16);
         due.fault(x, 0, sixteen + "turn 1;", 3, 112);
@@ -337,7 +322,7 @@ public final class PromisesTest {
 
     /** 400 signs, to the last one. */
     private static void fullTapes() {
-        LampRound x = row(2, 0);
+        LampRound x = Villages.row(2, 0);
         due.fault(x, 0, "turn " + "1".repeat(395), 1, 5);
         due.fault(x, 0, "turn " + "a".repeat(395), 1, 5);
         due.fault(x, 0, "turn 1" + " ".repeat(394), 1, 400);
@@ -360,7 +345,7 @@ public final class PromisesTest {
     }
 
     private static void pathTexts() {
-        LampRound x = row(3, 0);
+        LampRound x = Villages.row(3, 0);
         due.told(x, 2, "path 0 to 1 in 99 until 0;\npath 2 to 2 in 1;path 0to2in5until9;", 3);
         due.is("look(6)", x.look(6), 3);
         due.fault(x, 2, "path 3 to 1 in 1;", 2, 5);
@@ -376,7 +361,7 @@ public final class PromisesTest {
         due.fault(x, 2, "path 0 to 1 in 1", 1, 16);
         due.fault(x, 2, "go 0;", 1, 0);
         StringBuilder s = new StringBuilder();
-        LampRound y = row(2, 0);
+        LampRound y = Villages.row(2, 0);
         for (int i = 0; i < 13; i++) s.append("path0to1in9;");
         due.told(y, 2, s.toString(), 13);
         due.told(x, 2, "path 0 to 0 in 1;", 1);
@@ -386,7 +371,7 @@ public final class PromisesTest {
     }
 
     private static void needTexts() {
-        LampRound x = row(3, 0);
+        LampRound x = Villages.row(3, 0);
         due.told(x, 3, "need birth at 0 from 0 to 0 worth 1;need read at 1 from 9999 to 9999 worth 99;"
             + "need mend at 2 from 3 to 4 worth 5;need bride at 0 from 1 to 2 worth 3;", 4);
         int[][] all = {{0, 0, 0, 0, 1, -1, 0, 1}, {1, 1, 9999, 9999, 99, -1, 0, 0}, {2, 2, 3, 4, 5, -1, 0, 0},
@@ -414,7 +399,7 @@ public final class PromisesTest {
     }
 
     private static void roundTexts() {
-        LampRound x = row(3, 0);
+        LampRound x = Villages.row(3, 0);
         due.told(x, 4, "go 0;stay 60;again 9(go 2;)", 70);
         due.is("look(7)", x.look(7), 70);
         due.told(x, 4, "again 3 ( )", 0);
@@ -441,7 +426,7 @@ public final class PromisesTest {
 
     /** A text with a FAULT leaves what was told, and what can be undone. */
     private static void textsStay() {
-        LampRound x = street(2, 9);
+        LampRound x = Villages.street(2, 9);
         Due.tell(x, 0, "turn 3;");
         Due.tell(x, 1, "burn 0;turn;");
         Due.tell(x, 4, "stay 5;");
@@ -463,7 +448,7 @@ public final class PromisesTest {
     }
 
     private static void nights() {
-        LampRound x = street(3, 50);
+        LampRound x = Villages.street(3, 50);
         due.is("nights(0)", x.nights(0), NONE);
         due.is("nights(61)", x.nights(61), NONE);
         due.is("nights(-1)", x.nights(-1), NONE);
@@ -480,14 +465,14 @@ public final class PromisesTest {
         due.is("nights(60)", x.nights(60), 60);
         due.is("night", x.look(2), 66);
         // Not further than DUSK: from 0 only 1 is REACHED, from 1 both others.
-        LampRound y = street(3, 50);
+        LampRound y = Villages.street(3, 50);
         y.set(3, 0, 1);
         Due.tell(y, 0, "turn house;");
         y.nights(1);
         due.is("one step", y.look(1), 1);
         y.nights(1);
         due.is("two steps", y.look(1), 2);
-        LampRound z = row(2, 50);
+        LampRound z = Villages.row(2, 50);
         Due.tell(z, 0, "turn house;");
         z.nights(3);
         due.is("no path", z.look(1), 0);
@@ -505,7 +490,7 @@ public final class PromisesTest {
     }
 
     private static void dark() {
-        LampRound x = row(1, 10);
+        LampRound x = Villages.row(1, 10);
         x.set(8, 0, 5);
         Due.tell(x, 1, "burn 4;");
         due.is("two are lit", x.nights(4), 2);
@@ -519,7 +504,7 @@ public final class PromisesTest {
         Due.tell(x, 1, "burn 0;");
         due.is("nothing burns", x.nights(1), 1);
         // A need is not done in the dark.
-        LampRound y = row(1, 0);
+        LampRound y = Villages.row(1, 0);
         Due.tell(y, 3, "need read at 0 from 0 to 5 worth 1;");
         y.nights(1);
         due.is("not done", y.need(0, 5), NONE);
@@ -530,7 +515,7 @@ public final class PromisesTest {
     }
 
     private static void brides() {
-        LampRound x = street(2, 50);
+        LampRound x = Villages.street(2, 50);
         Due.tell(x, 3, "need bride at 0 from 0 to 9 worth 1;need bride at 1 from 3 to 3 worth 1;");
         Due.tell(x, 4, "go 0;go 1;go 0;go 0;go 1;");
         x.nights(1);
@@ -540,11 +525,11 @@ public final class PromisesTest {
         x.nights(1);
         due.is("two together", x.need(0, 5), 3);
         due.is("book", x.book(3, 5), 1);
-        LampRound y = row(1, 50);
+        LampRound y = Villages.row(1, 50);
         Due.tell(y, 3, "need bride at 0 from 1 to 1 worth 1;");
         y.nights(2);
         due.is("open in the second alone", y.need(0, 5), 1);
-        LampRound z = row(1, 1);
+        LampRound z = Villages.row(1, 1);
         Due.tell(z, 3, "need bride at 0 from 0 to 9 worth 1;");
         z.nights(2);
         z.set(7, 0, 9);
@@ -555,7 +540,7 @@ public final class PromisesTest {
     }
 
     private static void owed() {
-        LampRound x = row(2, 90);
+        LampRound x = Villages.row(2, 90);
         x.set(4, 0, 3);
         x.nights(2);
         due.is("not yet", x.of(1, 3), 0);
@@ -573,7 +558,7 @@ public final class PromisesTest {
         x.nights(2);
         due.is("0 at least", x.of(0, 3), 0);
         // Since LAST: lit in NIGHT 0, dark then; 3 and 6 are multiples.
-        LampRound y = row(1, 1);
+        LampRound y = Villages.row(1, 1);
         y.set(4, 0, 3);
         y.nights(3);
         due.is("since last, 2", y.of(0, 3), 0);
@@ -584,7 +569,7 @@ public final class PromisesTest {
     }
 
     private static void spoilt() {
-        LampRound x = row(2, 9);
+        LampRound x = Villages.row(2, 9);
         Due.tell(x, 3, "need read at 1 from 0 to 1 worth 1;need read at 0 from 2 to 2 worth 1;");
         x.nights(1);
         due.is("open still", x.need(0, 7), 1);
@@ -601,7 +586,7 @@ public final class PromisesTest {
     }
 
     private static void snow() {
-        LampRound x = row(1, 999);
+        LampRound x = Villages.row(1, 999);
         x.nights(1);
         due.is("no flakes, no draw", x.look(4), 0);
         x.set(1, 0, 1000);
@@ -610,7 +595,7 @@ public final class PromisesTest {
         due.is("the book's snow", x.book(1, 4), 0);
         due.is("the book's snow", x.book(2, 4), 1);
         // 1664525 + 1013904223 is 1015568748, by 256 3967065: a draw of 1000 is 65.
-        LampRound y = row(1, 999);
+        LampRound y = Villages.row(1, 999);
         y.state(1);
         y.set(0, 0, 5);
         y.set(1, 0, 65);
@@ -627,7 +612,7 @@ public final class PromisesTest {
         y.nights(1);
         due.is("0 at least", y.look(20), 0);
         // A state below 0: its 24 bits are without sign.
-        LampRound z = row(1, 999);
+        LampRound z = Villages.row(1, 999);
         z.set(1, 0, 1000);
         z.state(1196435762);
         z.nights(1);
@@ -641,7 +626,7 @@ public final class PromisesTest {
     }
 
     private static void rounds() {
-        LampRound x = street(3, 50);
+        LampRound x = Villages.street(3, 50);
         x.set(3, 0, 1);
         Due.tell(x, 0, "turn 0-house;");
         due.told(x, 4, "go 2;go 1;stay 2;again 2(go 2;go 1;)", 8);
@@ -658,7 +643,7 @@ public final class PromisesTest {
     }
 
     private static void lastNight() {
-        LampRound x = row(1, 999);
+        LampRound x = Villages.row(1, 999);
         for (int i = 0; i < 166; i++) due.is("nights", x.nights(60) == NONE ? 0 : 1, 1);
         due.is("night", x.look(2), 9960);
         due.is("nights(40)", x.nights(40), NONE);
@@ -707,7 +692,7 @@ public final class PromisesTest {
     }
 
     private static void far() {
-        LampRound x = row(4, 0);
+        LampRound x = Villages.row(4, 0);
         Due.tell(x, 2, "path 0 to 1 in 9;path 1 to 0 in 7 until 2;path 1 to 2 in 14;path 0 to 2 in 30 until 0;path 3 to 3 in 1;");
         due.is("the shorter one", x.far(0, 1), 7);
         due.is("both ways", x.far(1, 0), 7);
@@ -730,7 +715,7 @@ public final class PromisesTest {
     }
 
     private static void book() {
-        LampRound x = street(2, 50);
+        LampRound x = Villages.street(2, 50);
         Due.tell(x, 3, "need read at 0 from 0 to 9 worth 1;need mend at 0 from 0 to 9 worth 1;");
         x.set(0, 0, 6);
         x.nights(2);
@@ -745,7 +730,7 @@ public final class PromisesTest {
     }
 
     private static void run() {
-        LampRound x = street(3, 1);
+        LampRound x = Villages.street(3, 1);
         Due.tell(x, 3, "need read at 2 from 3 to 9 worth 1;need read at 0 from 1 to 2 worth 1;"
             + "need bride at 1 from 0 to 2 worth 1;need read at 2 from 0 to 2 worth 1;");
         Due.tell(x, 4, "go 2;go 0;");
@@ -776,13 +761,13 @@ public final class PromisesTest {
         due.is("lines", x.look(3), 0);
         due.is("need", x.need(2, 6), 0);
         // Of several that spoil in one NIGHT the least; those that are SPOILT already are not told.
-        LampRound y = row(2, 9);
+        LampRound y = Villages.row(2, 9);
         Due.tell(y, 3, "need read at 1 from 0 to 0 worth 1;need read at 1 from 0 to 3 worth 1;need read at 1 from 0 to 3 worth 1;");
         y.nights(1);
         due.is("spoilt", y.run(9, 2), 6);
         due.is("first", y.run(9, 3), 1);
         // The snow stays as it is: in thought 1 is not the one to go to, as it is once snow falls.
-        LampRound z = street(2, 50);
+        LampRound z = Villages.street(2, 50);
         Due.tell(z, 0, "turn house when snow>0;turn 0-house;");
         z.set(1, 0, 1000);
         due.is("in thought", z.run(40, 0), 0);
@@ -792,7 +777,7 @@ public final class PromisesTest {
 
     private static void plan() {
         // Two worth 5 at either end of a street, but one NIGHT less than both need.
-        LampRound x = street(5, 0);
+        LampRound x = Villages.street(5, 0);
         x.set(5, 0, 2);
         x.set(3, 0, 2);
         Due.tell(x, 3, "need read at 0 from 0 to 1 worth 5;need read at 4 from 0 to 1 worth 5;need mend at 1 from 1 to 1 worth 1;");
@@ -814,7 +799,7 @@ public final class PromisesTest {
         due.is("its second", x.plan(2, 11), 4);
         due.is("oil is not asked, nothing changes", x.look(2), 0);
         // Brides: LIT in the NIGHT ahead, really or in the plan.
-        LampRound y = row(1, 9);
+        LampRound y = Villages.row(1, 9);
         Due.tell(y, 3, "need bride at 0 from 0 to 9 worth 7;");
         due.is("one night", y.plan(1, 0), 0);
         due.is("two nights", y.plan(2, 0), 7);
@@ -822,13 +807,13 @@ public final class PromisesTest {
         due.is("one night, lit ahead", y.plan(1, 0), 7);
         y.nights(1);
         due.is("done", y.plan(9, 0), 0);
-        LampRound z = row(1, 0);
+        LampRound z = Villages.row(1, 0);
         Due.tell(z, 3, "need bride at 0 from 0 to 9 worth 7;need read at 0 from 0 to 0 worth 3;");
         z.nights(1);
         due.is("dark ahead, and spoilt", z.plan(1, 0), 0);
         due.is("dark ahead", z.plan(2, 0), 7);
         // Of plans alike in worth and way the first one by its HOUSES.
-        LampRound w = street(3, 9);
+        LampRound w = Villages.street(3, 9);
         w.set(5, 0, 1);
         Due.tell(w, 3, "need read at 0 from 0 to 0 worth 1;need read at 2 from 0 to 0 worth 1;");
         due.is("0 ahead of 2", w.plan(1, 10), 0);
@@ -837,7 +822,7 @@ public final class PromisesTest {
     }
 
     private static void planBounds() {
-        LampRound x = street(2, 9);
+        LampRound x = Villages.street(2, 9);
         due.is("plan(0, 0)", x.plan(0, 0), NONE);
         due.is("plan(11, 0)", x.plan(11, 0), NONE);
         due.is("plan(-1, 10)", x.plan(-1, 10), NONE);
@@ -916,7 +901,7 @@ public final class PromisesTest {
     }
 
     private static void rooms() {
-        LampRound x = row(6, 0);
+        LampRound x = Villages.row(6, 0);
         due.is("none", x.rooms(0), 0);
         due.is("alone", x.rooms(10), NONE);
         x.friends(0, 1, true);
@@ -948,7 +933,7 @@ public final class PromisesTest {
     }
 
     private static void sale() {
-        LampRound x = row(3, 0);
+        LampRound x = Villages.row(3, 0);
         due.is("no bid", x.sale(0), NONE);
         due.is("no price", x.sale(1), NONE);
         x.set(9, 1, 8);
@@ -965,7 +950,7 @@ public final class PromisesTest {
     }
 
     private static void liars() {
-        LampRound x = row(3, 5);
+        LampRound x = Villages.row(3, 5);
         due.is("none", x.liars(), 0);
         x.nights(2);
         x.set(10, 2, 1);
@@ -976,7 +961,7 @@ public final class PromisesTest {
     }
 
     private static void sure() {
-        LampRound x = row(3, 0);
+        LampRound x = Villages.row(3, 0);
         Due.tell(x, 2, "path 0 to 1 in 5 until 2;path 1 to 2 in 5 until 1;");
         due.is("no flakes", x.sure(0, 1, 9), 1000000);
         due.is("itself", x.sure(2, 2, 1), 1000000);
@@ -1005,7 +990,7 @@ public final class PromisesTest {
     }
 
     private static void best() {
-        LampRound x = row(4, 0);
+        LampRound x = Villages.row(4, 0);
         Due.tell(x, 2, "path 0 to 1 in 5;path 1 to 2 in 5 until 0;path 0 to 3 in 20;path 3 to 2 in 20 until 5;");
         x.set(1, 0, 500);
         due.is("all alike: the goal itself", x.best(2, 1), 2);
@@ -1025,7 +1010,7 @@ public final class PromisesTest {
     }
 
     private static void clues() {
-        LampRound x = street(3, 0);
+        LampRound x = Villages.street(3, 0);
         x.set(3, 0, 1);
         due.is("ways(1)", x.ways(1), 3);
         // 0 and 2 go on to two each, 1 to three: 7, then 17.
@@ -1065,7 +1050,7 @@ public final class PromisesTest {
     }
 
     private static void ask() {
-        LampRound x = street(3, 0);
+        LampRound x = Villages.street(3, 0);
         x.set(3, 0, 1);
         // Of 7 rows of two: in NIGHT 0 at 0 2, at 1 3, at 2 2: at 1 leaves 4.
         due.is("night", x.ask(2, 0), 0);
@@ -1085,7 +1070,7 @@ public final class PromisesTest {
     }
 
     private static void undo() {
-        LampRound x = street(2, 50);
+        LampRound x = Villages.street(2, 50);
         Due.tell(x, 3, "need read at 1 from 0 to 1 worth 1;need read at 1 from 2 to 2 worth 1;");
         Due.tell(x, 4, "stay 1;go 1;");
         x.set(1, 0, 1000);
@@ -1128,7 +1113,7 @@ public final class PromisesTest {
 
     /** A village with a NIGHT that can be undone. */
     private static LampRound passed() {
-        LampRound x = street(2, 50);
+        LampRound x = Villages.street(2, 50);
         x.image(true);
         x.nights(1);
         return x;
@@ -1176,7 +1161,7 @@ public final class PromisesTest {
     }
 
     private static void image() {
-        LampRound x = street(3, 50);
+        LampRound x = Villages.street(3, 50);
         due.no("none yet", x.image(false));
         Due.tell(x, 0, "turn house;turn 1;");
         Due.tell(x, 1, "burn 2;");
@@ -1233,7 +1218,7 @@ public final class PromisesTest {
         x.image(false);
         due.is("a later image", x.look(2), 3);
         // The book goes back, too, where its lines were written anew.
-        LampRound y = street(2, 50);
+        LampRound y = Villages.street(2, 50);
         y.nights(2);
         y.image(true);
         y.undo();
@@ -1250,7 +1235,7 @@ public final class PromisesTest {
     }
 
     private static void look() {
-        LampRound x = street(2, 50);
+        LampRound x = Villages.street(2, 50);
         for (int what = 12; what < 20; what++) due.is("look(" + what + ")", x.look(what), -1000);
         due.is("look(25)", x.look(25), -1000);
         due.is("look(-1)", x.look(-1), -1000);
