@@ -24,6 +24,7 @@ final class BackBounds {
         undoIsRefused();
         image();
         imageGoesOn();
+        imageOfFullBook();
         imageOfNothing();
         imageIsRefused();
         lastCall();
@@ -105,6 +106,11 @@ final class BackBounds {
         due.is("SPOILT", x.need(1, 6), 1);
         due.is("OWED of 0", x.of(0, 3), 1);
         due.is("OWED of 1", x.of(1, 3), 4);
+        due.is("PLAN has nothing left", x.plan(3, 0), 0);
+        due.yes("undo", x.undo());
+        due.is("PLAN has both again", x.plan(3, 0), 2);
+        x.nights(1);
+        due.is("PLAN has nothing left", x.plan(3, 0), 0);
         due.yes("undo", x.undo());
         due.is("not done", x.need(0, 5), NONE);
         due.is("not SPOILT", x.need(1, 6), 0);
@@ -214,7 +220,7 @@ final class BackBounds {
             for (int k = 0; k < 5; k++) due.told(y, k, "", 0);
             y.nights(2);
             y.house(40, 9, 9);
-            for (int what = 0; what < 5; what++) y.set(what, 0, 2);
+            for (int what = 0; what < 5; what++) y.set(what, 0, 7);
             for (int what = 6; what < 11; what++) y.set(what, 1, 11);
             y.friends(0, 2, true);
             y.friends(0, 1, false);
@@ -256,6 +262,28 @@ final class BackBounds {
         due.is("can be undone", x.look(11), 1);
         due.yes("undo", x.undo());
         due.no("not beyond THE IMAGE", x.undo());
+    }
+
+    /** THE BOOK to its last line. */
+    private void imageOfFullBook() {
+        LampRound x = Villages.street(2, 999);
+        for (int i = 0; i < 3; i++) x.nights(50);
+        x.image(true);
+        due.is("the last line's HOUSE", x.book(149, 1), 1);
+        for (int i = 0; i < 6; i++) due.yes("undo", x.undo());
+        x.set(0, 0, 7);
+        x.set(5, 0, 0);
+        due.told(x, 4, "stay 60;", 60);
+        x.nights(60);
+        due.is("other lines", x.book(149, 1), 0);
+        due.is("other lines", x.book(144, 4), 7);
+        due.yes("gone back", x.image(false));
+        for (int line = 140; line < 150; line++) {
+            due.is("NIGHT of line " + line, x.book(line, 0), line);
+            due.is("HOUSE of line " + line, x.book(line, 1), line % 2);
+            due.is("SNOW of line " + line, x.book(line, 4), 0);
+        }
+        due.is("lines", x.look(3), 150);
     }
 
     private void imageOfNothing() {

@@ -189,6 +189,12 @@ final class GuessBounds {
         sees(true, 0, 5, 8, 9, 10, 11, 12, 13);
         sees(true, 0, 8 * 2 + 3, 9, 10, 1, 8, 17, 18);
         sees(false, 0, 5, 8, 9, 10, 3, 12, 13);
+        LampRound x = Villages.row(3, 0);
+        LampRound y = new LampRound();
+        for (int place : new int[] {1, 0, 2}) y.house(place, 1, 0);
+        due.is("the third one has come last", x.of(0, 13), 2);
+        due.is("the third one has come first", y.of(1, 13), 1);
+        due.is("it sees both", y.of(0, 13), 6);
     }
 
     private void clues() {
@@ -338,10 +344,10 @@ final class GuessBounds {
         doc.says("`int ask(int n, int what)`: ASK by WAYS of n NIGHTS what 0 the NIGHT, 1 the HOUSE. NONE without WAYS, if one can't be, or "
             + "another what.");
         LampRound x = Villages.street(2, 0);
-        for (int n : new int[] {0, 11, -1, MIN, MAX})
-            for (int what = 0; what < 2; what++) due.is("ask(" + n + ", " + what + ")", x.ask(n, what), NONE);
         for (int n : new int[] {1, 10})
             for (int what = 0; what < 2; what++) due.is("ask(" + n + ", " + what + ")", x.ask(n, what), 0);
+        for (int n : new int[] {0, 11, -1, MIN, MAX})
+            for (int what = 0; what < 2; what++) due.is("ask(" + n + ", " + what + ")", x.ask(n, what), NONE);
         for (int what : new int[] {-1, 2, MIN, MAX}) due.is("ask(1, " + what + ")", x.ask(1, what), NONE);
         x.clue(1, 1);
         x.clue(1, 2);

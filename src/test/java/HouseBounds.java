@@ -297,6 +297,11 @@ final class HouseBounds {
             due.yes("set(5, " + who + ", 0)", x.set(5, who, 0));
             due.is("the lamp", x.look(1), 0);
         }
+        LampRound y = Villages.row(10, 5);
+        due.yes("set(5, 0, 9)", y.set(5, 0, 9));
+        due.is("the lamp", y.look(1), 9);
+        due.no("set(5, 0, 10)", y.set(5, 0, 10));
+        due.is("the lamp", y.look(1), 9);
     }
 
     private void friends() {

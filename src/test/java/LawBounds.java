@@ -14,6 +14,8 @@ final class LawBounds {
 
     void check() {
         wraps();
+        longest();
+        nothingLeft();
         lines();
         comparisons();
         readings();
@@ -61,6 +63,50 @@ final class LawBounds {
         due.is("differences in turn", turns("turn 9-3-2-1;"), 3);
         due.is("wraps in a condition", turns("turn 5 when 8192*8192*32<0;turn 6;"), 5);
         due.is("wraps in a condition", turns("turn 5 when 8192*8192*32-1>0;turn 6;"), 5);
+    }
+
+    /** A LAW of 400 bytes, more than once. */
+    private void longest() {
+        LampRound x = Villages.row(1, 0);
+        for (int i = 1; i <= 4; i++) {
+            due.told(x, 0, "turn" + i + "+1".repeat(197) + ";", 1);
+            due.is("a long sum", x.of(0, 8), i + 197);
+        }
+        x = Villages.row(1, 0);
+        for (int i = 1; i <= 4; i++) {
+            String b = "1=2or".repeat(76);
+            due.told(x, 0, "turn " + i + "when" + b + "1=1;", 1);
+            due.is("a long condition", x.of(0, 8), i);
+        }
+    }
+
+    /** What a FAULT has left open is not open in the next text. */
+    private void nothingLeft() {
+        LampRound x = Villages.row(1, 0);
+        String[] broken = {"turn 1 when not ?", "turn 1 when (?", "turn 1 when 1=2 and ?", "turn 1 when (1=2 or not (1=1 and ?"};
+        for (String text : broken) {
+            due.fault(x, 0, text, 1, text.length() - 1);
+            due.told(x, 0, "turn 5 when 1=1;turn 6;", 2);
+            due.is("5 after " + text, x.of(0, 8), 5);
+            due.told(x, 0, "turn 5 when (1=1 or 1=2) and not (1=2 and 1=1) and 1=2;turn 6;", 2);
+            due.is("6 after " + text, x.of(0, 8), 6);
+            due.told(x, 0, "turn 5 when 1=1 or 1=1 and 1=2;turn 6;", 2);
+            due.is("and ahead of or", x.of(0, 8), 5);
+            due.told(x, 0, "turn 5 when 1=2 and 1=1 or 1=1;turn 6;", 2);
+            due.is("and ahead of or", x.of(0, 8), 5);
+            due.told(x, 0, "turn 5 when not 1=2 and not (not 1=1 or 1=2) and 1=1;turn 6;", 2);
+            due.is("nots one by one", x.of(0, 8), 5);
+        }
+        x = Villages.row(1, 0);
+        for (int i = 0; i < 9; i++) due.fault(x, 0, "turn 1 when ((((((((?", 1, 20);
+        due.told(x, 0, "turn 5 when 1=2 and (1=1) and 1=1 or (not 1=1);turn 6;", 2);
+        due.is("6 after many that were open", x.of(0, 8), 6);
+        due.told(x, 0, "turn 5 when (not (1=2)) and not (not (not 1=2));turn 6;", 2);
+        due.is("5 after many that were open", x.of(0, 8), 5);
+        x = Villages.row(1, 0);
+        due.fault(x, 4, "again 2(go 0;again 3(", 1, 21);
+        due.fault(x, 4, "go 0;)", 1, 5);
+        due.told(x, 4, "go 0;again 2(go 0;)", 3);
     }
 
     private void lines() {

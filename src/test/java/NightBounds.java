@@ -111,6 +111,13 @@ final class NightBounds {
             due.is("THE LAMP", x.look(1), w[0]);
             due.is("NIGHTS left", x.look(7), w[1]);
         }
+        LampRound z = Villages.street(3, 99);
+        due.told(z, 4, "again 2(go 2;again 2(go 1;)go 0;)", 8);
+        int[] stops = {2, 1, 1, 0, 2, 1, 1, 0};
+        for (int i = 0; i < 8; i++) {
+            z.nights(1);
+            due.is("again, NIGHT " + i, z.look(1), stops[i]);
+        }
         // 200 NIGHTS, and the one behind them.
         LampRound y = Villages.street(2, 0);
         due.told(y, 0, "turn house;", 1);
@@ -416,6 +423,12 @@ final class NightBounds {
         int[][] want = {{0, 0, 1, 2, 8, 1023}, {1, 0, 0, 1, 9, 0}, {2, 0, 0, 0, 9, 0}};
         for (int i = 0; i < 3; i++)
             for (int what = 0; what < 6; what++) due.is("book(" + i + ", " + what + ")", x.book(i, what), want[i][what]);
+        LampRound y = Villages.street(2, 9);
+        due.told(y, 3, "need read at 1 from 0 to 9 worth 1;need read at 1 from 1 to 1 worth 1;", 2);
+        y.nights(3);
+        int[][] then = {{0, 0, 1, 1, 0, 0}, {1, 1, 1, 1, 0, 3}, {2, 0, 1, 1, 0, 0}};
+        for (int i = 0; i < 3; i++)
+            for (int what = 0; what < 6; what++) due.is("book(" + i + ", " + what + ")", y.book(i, what), then[i][what]);
         for (int i : new int[] {-1, 3, 149, 150, MIN, MAX}) due.is("book(" + i + ", 0)", x.book(i, 0), NONE);
         for (int what : new int[] {-1, 6, MIN, MAX}) due.is("book(0, " + what + ")", x.book(0, what), NONE);
         due.is("book(-1, 6): not the one ahead", x.book(-1, 6), NONE);

@@ -99,6 +99,15 @@ final class TextBounds {
         due.yes("end(6)", x.end(6));
         due.is("its first 6", x.text(0), NONE);
         due.is("end there", x.fault(1), 6);
+        // Within a word, and within a number: what was behind is not there.
+        Due.put(x, "turning");
+        due.yes("end(4)", x.end(4));
+        due.is("a word cut off", x.text(0), NONE);
+        due.is("it ends there", x.fault(1), 4);
+        Due.put(x, "turn 77;");
+        due.yes("end(6)", x.end(6));
+        due.is("a number cut off", x.text(0), NONE);
+        due.is("it ends there", x.fault(1), 6);
         Due.put(x, "turn 7;");
         due.yes("end(0)", x.end(0));
         due.is("nothing", x.text(0), 0);

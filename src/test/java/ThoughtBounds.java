@@ -127,6 +127,9 @@ final class ThoughtBounds {
             due.is("run(99, " + what + ")", x.run(99, what), new int[] {0, 99, 0, NONE}[what]);
             due.is("no HOUSE", new LampRound().run(1, what), NONE);
         }
+        // With something SPOILT, so that NONE is no answer of RUN's own.
+        due.told(x, 3, "need read at 0 from 0 to 0 worth 1;", 1);
+        due.is("the first", x.run(1, 3), 0);
         for (int what : new int[] {-1, 4, MIN, MAX}) due.is("run(1, " + what + ")", x.run(1, what), NONE);
     }
 
@@ -146,6 +149,7 @@ final class ThoughtBounds {
         LampRound y = Villages.row(2, 9);
         due.told(y, 3, "need read at 0 from 0 to 9 worth 1;need read at 1 from 0 to 0 worth 2;need mend at 1 from 0 to 9 worth 4;", 3);
         y.nights(1);
+        due.is("done", y.plan(10, 0), 0);
         y.set(5, 0, 1);
         due.is("what is left", y.plan(10, 0), 4);
     }
@@ -208,13 +212,28 @@ final class ThoughtBounds {
         due.told(y, 3, "need read at 0 from 0 to 9 worth 7;", 1);
         for (int k = 0; k < 5; k++) due.is("NIGHT " + k, y.plan(5, 10 + k), 0);
         due.is("nothing to be done", planOfNothing(), 0);
+        // Ten HOUSES, ten NEEDS, ten NIGHTS: from the last HOUSE down to the first.
+        LampRound z = Villages.street(10, 0);
+        z.set(5, 0, 9);
+        StringBuilder s = new StringBuilder();
+        for (int h = 9; h >= 0; h--) s.append("need read at" + h + "from" + (9 - h) + "to" + (9 - h) + "worth1;");
+        due.told(z, 3, s.toString(), 10);
+        due.is("worth of ten", z.plan(10, 0), 10);
+        due.is("way of ten", z.plan(10, 1), 9);
+        for (int k = 0; k < 10; k++) due.is("NIGHT " + k, z.plan(10, 10 + k), 9 - k);
+        due.told(z, 3, "need read at0from0to9worth1;need read at9from0to9worth1;", 2);
+        due.is("to the first and back, or not at all", z.plan(1, 0), 1);
+        due.is("stays", z.plan(1, 10), 9);
     }
 
     private int planOfNothing() {
         LampRound x = Villages.street(3, 0);
         x.set(5, 0, 2);
         for (int k = 0; k < 10; k++) due.is("stays in NIGHT " + k, x.plan(10, 10 + k), 2);
-        return x.plan(10, 0) + x.plan(10, 1);
+        LampRound y = Villages.street(10, 0);
+        y.set(5, 0, 9);
+        for (int k = 0; k < 10; k++) due.is("stays in NIGHT " + k, y.plan(10, 10 + k), 9);
+        return x.plan(10, 0) + x.plan(10, 1) + y.plan(10, 0) + y.plan(10, 1);
     }
 
     private void planBrides() {
@@ -313,6 +332,7 @@ final class ThoughtBounds {
         // 7 by 20 and none by 1: 1 by 1 of it, and so 20 by 20, less MARGIN.
         due.is("of 0", had(20, 7, 1, 0).mend(0), 13);
         due.is("of 1", had(20, 7, 1, 0).mend(1), 1);
+        due.is("all", had(20, 7, 1, 0).mend(NONE), 14);
         LampRound y = had(1, 100, 1, 0);
         y.set(2, 0, 99);
         due.is("100 less 99", y.mend(1), 1);
@@ -387,6 +407,12 @@ final class ThoughtBounds {
         due.is("1 ahead of others", z.rooms(11), 9);
         due.is("2 is alone", z.rooms(12), NONE);
         due.is("9 with 1", z.rooms(19), 1);
+        LampRound v = Villages.row(4, 0);
+        v.friends(0, 2, true);
+        v.friends(0, 1, true);
+        due.is("0 with the lesser one", v.rooms(10), 1);
+        due.is("and that with 0", v.rooms(11), 0);
+        due.is("the other one alone", v.rooms(12), NONE);
         // None is last: 0 with 3, though then 1 is with 2 and not with 3.
         LampRound w = Villages.row(4, 0);
         w.friends(0, 3, true);
