@@ -110,6 +110,10 @@ final class GuessBounds {
             due.is("sure(" + h + ", " + h + ", 1)", x.sure(h, h, 1), NONE);
         }
         due.is("no HOUSE", new LampRound().sure(0, 0, 1), NONE);
+        LampRound y = Villages.street(10, 0);
+        due.is("from the first to the last of ten", y.sure(0, 9, 9), MILLION);
+        due.is("and back", y.sure(9, 0, 9), MILLION);
+        due.is("no 11th", y.sure(0, 10, 9), NONE);
     }
 
     private void best() {
@@ -132,6 +136,13 @@ final class GuessBounds {
         due.is("for itself: 1 is alike", y.best(2, 9), 1);
         y.set(5, 0, 3);
         due.is("alone", y.best(2, 1), 3);
+        LampRound z = Villages.street(10, 0);
+        z.set(3, 0, 1);
+        z.set(5, 0, 9);
+        due.is("the last of ten", z.best(8, 1), 8);
+        due.is("for the first none", z.best(0, 1), 8);
+        z.set(5, 0, 0);
+        due.is("for the last none", z.best(9, 1), 0);
     }
 
     private void bestIsRefused() {

@@ -127,6 +127,15 @@ final class TextBounds {
             due.fault(x, k, "?", 1, 0);
             due.no("empty then", x.end(1));
         }
+        // The TAPE's last byte is a word's, a number's, a sign's, or a blank.
+        LampRound z = Villages.row(2, 0);
+        String full = "turn 1;" + " ".repeat(393);
+        due.told(z, 0, full, 1);
+        due.told(z, 0, " ".repeat(393) + "turn 1;", 1);
+        for (String last : new String[] {"t", "tu", "tur", "turnt", "7", "?"})
+            due.fault(z, 0, full.substring(0, 400 - last.length()) + last, 1, 400 - last.length());
+        for (String last : new String[] {"turn", "turn 1", "turn 9999", "turn house", "turn 1 when 1=1"})
+            due.fault(z, 0, full.substring(0, 400 - last.length()) + last, 1, 400);
         doc.says("NONE: no such one (fault() tells 0), or a FAULT (it stays as it was).");
         for (int k : new int[] {-1, 5, MIN, MAX}) {
             LampRound y = Villages.row(2, 0);

@@ -460,6 +460,11 @@ final class ThoughtBounds {
         due.is("of two the least", x.sale(0), 0);
         due.is("99", x.sale(1), 99);
         for (int what : new int[] {-1, 2, 10, MIN, MAX}) due.is("sale(" + what + ")", x.sale(what), NONE);
+        LampRound z = Villages.row(10, 0);
+        z.set(9, 0, 8);
+        z.set(9, 9, 9);
+        due.is("the last HOUSE", z.sale(0), 9);
+        due.is("the first one's", z.sale(1), 8);
         LampRound y = Villages.row(1, 0);
         y.set(9, 0, 5);
         due.is("alone", y.sale(0), 0);
