@@ -33,6 +33,7 @@ public final class LanguageTest {
         List<Class<?>> classes = new ArrayList<>(List.of(LampRound.class));
         classes.addAll(List.of(LampRound.class.getDeclaredClasses()));
         face();
+        documentsFace();
         if (classes.size() > 12) wrong.add("more than twelve classes: " + classes.size());
         for (Class<?> c : classes) {
             members(c);
@@ -75,6 +76,22 @@ public final class LanguageTest {
         if (!Modifier.isPublic(flags) || !Modifier.isFinal(flags)) wrong.add("the class is not public and final");
     }
 
+    /** The face that is looked for here is DOC.md's own. */
+    private static void documentsFace() throws IOException {
+        Path doc = Path.of("../shared/DOC.md");
+        if (!Files.isReadable(doc)) {
+            System.out.println("no " + doc + ": its face is not compared");
+            return;
+        }
+        Set<String> due = new TreeSet<>();
+        Matcher method = Pattern.compile("(?m)^    public (\\w+) (\\w+)\\((.*)\\);$").matcher(Files.readString(doc));
+        while (method.find()) {
+            String types = method.group(3).replaceAll(" \\w+(,|$)", "$1").replace(" ", "");
+            due.add(method.group(2) + "(" + types + ")" + method.group(1));
+        }
+        if (!due.equals(new TreeSet<>(List.of(FACE.split(" "))))) wrong.add("DOC.md's face is " + due);
+    }
+
     private static void members(Class<?> c) {
         int flags = c.getModifiers();
         boolean nested = c != LampRound.class;
@@ -90,7 +107,8 @@ public final class LanguageTest {
         for (Method m : c.getDeclaredMethods()) {
             if (m.getParameterCount() > 7) wrong.add(m + " has more than seven parameters");
             if (m.isSynthetic()) wrong.add(m + " is not written out");
-            if (nested && FACE.contains(" " + m.getName() + "(")) wrong.add(m + " bears a public name");
+            boolean hidden = nested || Modifier.isPrivate(m.getModifiers());
+            if (hidden && (" " + FACE).contains(" " + m.getName() + "(")) wrong.add(m + " bears a public name");
         }
     }
 
