@@ -24,13 +24,17 @@ public final class ReadmeTest {
 
     private static void run(String readme) throws Exception {
         Matcher block = Pattern.compile("```java\n(.*?)```", Pattern.DOTALL).matcher(readme);
-        due.yes("README.md has a run of calls", block.find());
+        boolean there = block.find();
+        due.yes("README.md has a run of calls", there);
+        if (!there) return;
         LampRound village = new LampRound();
         int calls = 0;
         for (String line : block.group(1).split("\n")) {
             if (!line.startsWith("village.")) continue;
             Matcher call = Pattern.compile("village\\.(\\w+)\\((.*?)\\); *// (\\S+).*").matcher(line);
-            due.yes("an answer stands behind " + line, call.matches());
+            boolean told = call.matches();
+            due.yes("an answer stands behind " + line, told);
+            if (!told) continue;
             Object got = answer(village, call.group(1), call.group(2));
             due.yes(line + " (answered " + got + ")", call.group(3).equals("" + got));
             calls++;
